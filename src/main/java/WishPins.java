@@ -844,7 +844,7 @@ public final class WishPins {
             }
             for (int k = 0; k < pins; k++) {
                 int v = row.at(i + k);
-                share[k] = wishOf(well.slope, well.turnAt(k), 0, 0);
+                share[k] = Math.floorMod(well.slope * well.turnAt(k), WISHES);
                 wanted[k] = v == ANY_WISH ? ANY_WISH : Math.floorMod(v - well.drift * well.yearAt(k), WISHES);
                 spare[share[k]]++;
             }

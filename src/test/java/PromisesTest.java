@@ -408,6 +408,8 @@ public final class PromisesTest {
         for (int act = 1; act < 8; act++) {
             due("century OUTSIDE at " + act, x.century(3, 2, 2 * act, 1, 1), OUTSIDE);
         }
+        row(x, 0, 0, 10, 0);
+        due("century OUTSIDE, the second pair", x.century(3, 2, 0, 2, 0), OUTSIDE);
         row(x, 0, 4, 0, 4, 0, 5);
         due("century looks at all pairs first", x.century(3, 2, 0, 3, 1), OUTSIDE);
         due("century without the last", x.century(3, 2, 0, 2, 1), 1);
@@ -448,6 +450,9 @@ public final class PromisesTest {
         due("run, the first", x.run(1), 1);
         due("run OUTSIDE", x.run(-1), OUTSIDE);
         due("run OUTSIDE", x.run(2), OUTSIDE);
+        x = made("w10;p10;p10;p20");
+        due("run of the lowest", x.run(0), 2);
+        due("run of the lowest", x.run(1), 0);
         x = made("w10;p10");
         due("run of one", x.run(0), 1);
         due("run of one", x.run(1), 0);
@@ -536,6 +541,8 @@ public final class PromisesTest {
         due("layers OUTSIDE cell", x.layers(3, 2, 1, -1), OUTSIDE);
         due("layers OUTSIDE cell", x.layers(3, 2, 2, -1), OUTSIDE);
         due("layers", x.layers(3, 2, 3, -1), 0);
+        row(x, 6, 6, 7);
+        due("a cell behind them doesn't matter", x.layers(3, 2, 0, -1), 2);
     }
 
     private static void readingAndBack() {
@@ -671,6 +678,9 @@ public final class PromisesTest {
         due("sheet anew", x.sheet(0, 1, 60), 1);
         due("cell is 0 anew", x.cell(0, 59, 1), 0);
         due("sheet of nothing is a row", x.sheet(0, 0, 0), 1);
+        due("it has no cell", x.put(0, 0, 1), INDEX);
+        due("it has no cell", x.cell(0, 0, 0), LOST);
+        due("fault", x.fault(), 3);
         due("lose", x.lose(0), 1);
     }
 
