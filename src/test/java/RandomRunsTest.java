@@ -3,8 +3,9 @@ import java.util.List;
 import java.util.Random;
 
 /**
- * Runs of up to 512 calls, told twice: by WishPins and by a plain second telling of the document, which leaves
- * CAST, NULL, INDEX, SIZE and the bodies to the Java machine and tries all orders one by one.
+ * Runs of 512 calls, the most that an object is used for, told twice: by WishPins and by a plain second telling of
+ * the document, which leaves CAST, NULL, INDEX, SIZE and the bodies to the Java machine and tries all orders one
+ * by one.
  */
 public final class RandomRunsTest {
     private static final int RUNS = 3000, CALLS = 512;
@@ -36,8 +37,11 @@ public final class RandomRunsTest {
         WishPins x = new WishPins();
         Model m = new Model();
         List<int[]> asked = new ArrayList<>();
-        boolean wild = run % 4 == 0;
-        for (int n = 0; n < CALLS; n++) {
+        boolean wild = run % 4 < 2;
+        // every other run looks at fault() and trace() behind each call: they are calls, too
+        boolean looks = run % 2 == 0;
+        int callsOfTurn = looks ? 3 : 1;
+        for (int n = 0; n + callsOfTurn <= CALLS; n += callsOfTurn) {
             while (asked.isEmpty()) {
                 prepare(random, m, asked, wild);
             }
@@ -47,10 +51,12 @@ public final class RandomRunsTest {
             if (want >= 0) {
                 good[c[0]]++;
             }
-            if (got != want || x.fault() != m.fault || x.trace() != m.trace) {
+            int fault = looks ? x.fault() : m.fault;
+            int trace = looks ? x.trace() : m.trace;
+            if (got != want || fault != m.fault || trace != m.trace) {
                 System.out.println("run " + run + " call " + n + ": " + NAMES[c[0]] + " " + c[1] + " " + c[2] + " "
                     + c[3] + " " + c[4] + " " + c[5] + " answered " + got + ", due is " + want + "; fault "
-                    + x.fault() + ", due is " + m.fault + "; trace " + x.trace() + ", due is " + m.trace);
+                    + fault + ", due is " + m.fault + "; trace " + trace + ", due is " + m.trace);
                 return 1;
             }
         }
